@@ -40,8 +40,6 @@ public final class LanternTree {
     private int remembered;
 
     public LanternTree() {
-        oldest = 0;
-        remembered = 0;
         present.begin(FIRST_ORDER);
     }
 
@@ -238,12 +236,12 @@ public final class LanternTree {
         if (n < 1 || n > MAX_COMMANDS) {
             throw new IllegalArgumentException("a script has 1 to 3 commands");
         }
-        if (script < 0 || groupFromBehind(script, n) != 0) {
+        if (script < 0 || withoutLastGroups(script, n) != 0) {
             throw new IllegalArgumentException("a script has at most 5 digits for each command");
         }
         trial.become(present);
         for (int i = 0; i < n; i++) {
-            if (!trial.follow((int) (groupFromBehind(script, n - 1 - i) % GROUP))) {
+            if (!trial.follow((int) (withoutLastGroups(script, n - 1 - i) % GROUP))) {
                 return i;
             }
         }
@@ -367,7 +365,7 @@ public final class LanternTree {
     // ---- numbers and rows
 
     /** What is left of a script when that many groups are cut off at its end. */
-    private static long groupFromBehind(long script, int groups) {
+    private static long withoutLastGroups(long script, int groups) {
         long rest = script;
         for (int i = 0; i < groups; i++) {
             rest = rest / GROUP;
@@ -1134,7 +1132,7 @@ public final class LanternTree {
                 case 2:
                     return second == 0 && tree.pull(lastThree) >= 0;
                 case 3:
-                    return group % 10000 == 0 && tendOnce() >= NONE;
+                    return group % 10000 == 0 && tendOnce() != REFUSED;
                 case 4:
                     return second == 0 && third == 0 && passNight(lastTwo) != REFUSED;
                 case 5:

@@ -73,6 +73,17 @@ public final class TextTest {
             DUE.is("clearText() behind it", tree.clearText(), texts[i].length());
         }
         LanternTree tree = new LanternTree();
+        Due.write(tree, "L2i012d345s0");
+        tree.clearText();
+        Due.write(tree, "L2i");
+        DUE.is("errorPosition() of a text behind a longer one", tree.errorPosition(), 3);
+        Due.write(tree, "0120");
+        DUE.is("errorPosition() of a digit too much", tree.errorPosition(), 6);
+        tree.clearText();
+        Due.write(tree, "L");
+        DUE.is("errorPosition() of L behind a longer one", tree.errorPosition(), 1);
+        tree.clearText();
+        DUE.is("errorPosition() of nothing behind a longer one", tree.errorPosition(), 0);
         Due.write(tree, "L2" + "t".repeat(98));
         DUE.is("errorPosition() of 100 characters", tree.errorPosition(), -1);
         tree.clearText();

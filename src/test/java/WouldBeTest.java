@@ -18,6 +18,7 @@ public final class WouldBeTest {
         save();
         restore();
         restoreOfMerges();
+        restoreOfInnerNodes();
         DUE.end();
     }
 
@@ -246,6 +247,20 @@ public final class WouldBeTest {
         DUE.is("save(1) behind load()", tree.save(1), 0);
         DUE.is("restore(1) behind load()", tree.restore(1), 0);
         DUE.throwsState("restore(0) still", () -> tree.restore(0));
+    }
+
+    private static void restoreOfInnerNodes() {
+        LanternTree tree = Due.garden("L2i000i001i002ti003ti004t");
+        tree.tend();
+        tree.save(0);
+        tree.undo();
+        tree.insert(5);
+        DUE.is("tend() makes leaf 5", tree.tend(), 104);
+        DUE.is("child(5, 0) of a leaf", tree.child(5, 0), -1);
+        tree.restore(0);
+        DUE.is("child(5, 0)", tree.child(5, 0), 3);
+        DUE.is("child(6, 0)", tree.child(6, 0), 2);
+        DUE.is("find(4)", tree.find(4), 2004);
     }
 
     private static void restoreOfMerges() {
