@@ -20,6 +20,17 @@ final class Due {
         }
     }
 
+    void text(String told, String got, String due) {
+        if (!got.equals(due)) {
+            wrong++;
+            System.out.println(told + ": got " + got + ", due is " + due);
+        }
+    }
+
+    int wrong() {
+        return wrong;
+    }
+
     void throwsIndex(String call, Call made) {
         thrown(call, made, "IndexOutOfBoundsException");
     }

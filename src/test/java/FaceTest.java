@@ -10,6 +10,7 @@ import java.util.TreeSet;
 /** The public face of the document and nothing beside it, and what of LANGUAGE.md can be seen from outside. */
 public final class FaceTest {
     private static final Due DUE = new Due();
+    private static final Path SOURCE = Path.of("src/main/java/LanternTree.java");
 
     private static final String[] FACE = {"about int", "addReader int", "append int", "behindNight int int",
         "child int int", "clearText", "errorPosition", "find int", "fullness", "insert int", "keyAt int int", "load",
@@ -23,7 +24,12 @@ public final class FaceTest {
     public static void main(String[] args) throws IOException {
         face();
         nestedClasses();
+        limits(LanternTree.class);
+        for (Class<?> nested : LanternTree.class.getDeclaredClasses()) {
+            limits(nested);
+        }
         source();
+        methodLengths();
         DUE.end();
     }
 
@@ -71,8 +77,40 @@ public final class FaceTest {
         }
     }
 
+    /** Rules 1, 5 and 11: few fields, no static state, few parameters. */
+    private static void limits(Class<?> type) {
+        int fields = 0;
+        for (Field f : type.getDeclaredFields()) {
+            boolean constant = Modifier.isStatic(f.getModifiers());
+            fields += constant ? 0 : 1;
+            boolean plain = f.getType().isPrimitive() && f.getType() != float.class && f.getType() != double.class;
+            boolean allowed = !constant || Modifier.isFinal(f.getModifiers()) && (plain || f.getType() == String.class);
+            DUE.is(type + "." + f.getName() + " is allowed", allowed ? 1 : 0, 1);
+        }
+        DUE.is(type + " has few fields", fields <= 20 ? 1 : 0, 1);
+        for (Method m : type.getDeclaredMethods()) {
+            DUE.is(m + " has few parameters", m.getParameterCount() <= 7 ? 1 : 0, 1);
+        }
+        DUE.is("classes inside", LanternTree.class.getDeclaredClasses().length <= 12 ? 1 : 0, 1);
+    }
+
+    /** Rule 11: a method that begins with its name and ends with a brace of the same depth has some sixty lines at most. */
+    private static void methodLengths() throws IOException {
+        String begun = "";
+        int lines = 0;
+        for (String line : Files.readAllLines(SOURCE)) {
+            boolean begins = line.matches(" {4}( {4})?(public|private) .*\\).*\\{");
+            begun = begins ? line : begun;
+            lines = begins ? 0 : lines + 1;
+            if (!begun.isEmpty() && line.equals(begun.replaceFirst("\\S.*", "}"))) {
+                DUE.is("the lines of \"" + begun.trim() + "\" are few", lines <= 60 ? 1 : 0, 1);
+                begun = "";
+            }
+        }
+    }
+
     private static void source() throws IOException {
-        String text = Files.readString(Path.of("src/main/java/LanternTree.java"));
+        String text = Files.readString(SOURCE);
         for (String word : RULED_OUT) {
             DUE.is("the source has " + word, text.contains(word) ? 1 : 0, 0);
         }
