@@ -51,7 +51,7 @@ final class Due {
         }
     }
 
-    private void thrown(String call, Call made, String name) {
+    void thrown(String call, Call made, String name) {
         String got;
         try {
             got = String.valueOf(made.answer());

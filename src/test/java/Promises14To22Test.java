@@ -20,7 +20,7 @@ public final class Promises14To22Test {
     private static final int[] WRONG_KEYS = {-1, 1000, Integer.MIN_VALUE, Integer.MAX_VALUE};
 
     public static void main(String[] args) {
-        Sentences.test(Promises14To22Test.class);
+        Sentences.test(Promises14To22Test.class, args);
     }
 
     @Sentence(of = P14, says = "Inserts a key into the leaf at which one comes when one looks for it from the root.")

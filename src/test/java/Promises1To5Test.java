@@ -7,7 +7,7 @@ public final class Promises1To5Test {
     private static final String P5 = "Promise 5: load";
 
     public static void main(String[] args) {
-        Sentences.test(Promises1To5Test.class);
+        Sentences.test(Promises1To5Test.class, args);
     }
 
     @Sentence(of = P1, says = "Creates a tree of order 3 without keys.")

@@ -28,7 +28,7 @@ public final class Promises23To29Test {
     private static final String TWO_READERS = Gardens.TWO_LEAVES + "r040r010s1s1";
 
     public static void main(String[] args) {
-        Sentences.test(Promises23To29Test.class);
+        Sentences.test(Promises23To29Test.class, args);
     }
 
     @Sentence(of = P23, says = "Tells how long a reader would still walk.")

@@ -15,7 +15,7 @@ public final class Promises6To13Test {
     private static final int[] BELOW_0 = {-1, Integer.MIN_VALUE};
 
     public static void main(String[] args) {
-        Sentences.test(Promises6To13Test.class);
+        Sentences.test(Promises6To13Test.class, args);
     }
 
     /** about(what) of a new object, of a tree of three levels, and of one whose root was left. */

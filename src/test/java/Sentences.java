@@ -21,10 +21,13 @@ final class Sentences {
         return found;
     }
 
-    /** Ends the program, with exit code 1 if a test failed. */
-    static void test(Class<?> tests) {
+    /**
+     * Runs the tests of these names, or all if none is given. Ends the program, with exit code 1 if a test
+     * failed, or if a name is of no test.
+     */
+    static void test(Class<?> tests, String[] names) {
         int failed = 0;
-        List<Method> all = of(tests);
+        List<Method> all = names.length == 0 ? of(tests) : named(of(tests), names);
         for (Method m : all) {
             if (!holds(m)) {
                 failed++;
@@ -33,9 +36,25 @@ final class Sentences {
             }
         }
         System.out.println(all.size() - failed + " of " + all.size() + " tests passed");
-        if (failed != 0 || all.isEmpty()) {
+        if (failed != 0 || all.size() < Math.max(1, names.length)) {
             System.exit(1);
         }
+    }
+
+    private static List<Method> named(List<Method> all, String[] names) {
+        List<Method> found = new ArrayList<>();
+        for (String name : names) {
+            int before = found.size();
+            for (Method m : all) {
+                if (m.getName().equals(name)) {
+                    found.add(m);
+                }
+            }
+            if (found.size() == before) {
+                System.out.println("there is no test " + name);
+            }
+        }
+        return found;
     }
 
     private static boolean holds(Method test) {

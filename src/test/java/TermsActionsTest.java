@@ -13,7 +13,7 @@ public final class TermsActionsTest {
     private static final String READERS = Gardens.TWO_LEAVES + "r040r010r011s1s1s2s2";
 
     public static void main(String[] args) {
-        Sentences.test(TermsActionsTest.class);
+        Sentences.test(TermsActionsTest.class, args);
     }
 
     @Sentence(of = ACTIONS, says = STATE)

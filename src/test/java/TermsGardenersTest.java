@@ -7,7 +7,7 @@ public final class TermsGardenersTest {
     private static final String TWO_INNER_TOO_FULL = "L2i000i100i200ti300ti400tti001i002ti003i401tti402t";
 
     public static void main(String[] args) {
-        Sentences.test(TermsGardenersTest.class);
+        Sentences.test(TermsGardenersTest.class, args);
     }
 
     @Sentence(of = GARDENERS, says = "The gardeners tend the tree by doing the first of the following that they can, once:")

@@ -3,7 +3,7 @@ public final class TermsReadersTest {
     private static final String READERS = "Terms: READERS";
 
     public static void main(String[] args) {
-        Sentences.test(TermsReadersTest.class);
+        Sentences.test(TermsReadersTest.class, args);
     }
 
     @Sentence(of = READERS, says = "There are at most 4 readers, numbered from 0.")

@@ -6,7 +6,7 @@ public final class TermsTextTest {
     private static final String TOO_SOON = "if the text ends too soon, it is the length of the text.";
 
     public static void main(String[] args) {
-        Sentences.test(TermsTextTest.class);
+        Sentences.test(TermsTextTest.class, args);
     }
 
     private static void error(Due due, String text, int position) {

@@ -4,7 +4,7 @@ public final class TermsTreeTest {
     private static final String TREE = "Terms: THE TREE";
 
     public static void main(String[] args) {
-        Sentences.test(TermsTreeTest.class);
+        Sentences.test(TermsTreeTest.class, args);
     }
 
     @Sentence(of = IS, says = "An object is used for at most 512 calls after it has been made")
